@@ -135,21 +135,17 @@ public final class SnippetStops {
     }
 
     public int nexts() {
-        if (now.open == 0) {
+        Session top = now.uppermost();
+        if (top == null) {
             return refuse(NO);
         }
+        int next = top.leastAbove(top.stop);
         draft.copyOf(now);
-        int next = NONE;
-        Session top = draft.uppermost();
-        if (top != null) {
-            next = top.leastAbove(top.stop);
-        }
-        if (top == null || next == NONE) {
-            draft.settle();
+        if (next == NONE) {
             draft.endUppermost();
             return lands() ? ENDED : refuse(FULL);
         }
-        top.comeTo(next);
+        draft.comeTo(next);
         return lands() ? next : refuse(FULL);
     }
 
@@ -160,10 +156,7 @@ public final class SnippetStops {
             return refuse(NO);
         }
         draft.copyOf(now);
-        top = draft.uppermost();
-        if (top != null) {
-            top.comeTo(before);
-        }
+        draft.comeTo(before);
         return lands() ? before : refuse(FULL);
     }
 
@@ -188,7 +181,6 @@ public final class SnippetStops {
             return refuse(NO);
         }
         draft.copyOf(now);
-        draft.settle();
         draft.endUppermost();
         return lands() ? now.open : refuse(FULL);
     }
@@ -489,13 +481,9 @@ public final class SnippetStops {
             size += n;
         }
 
-        void addAll(Row from) {
-            addPart(from, 0, from.size);
-        }
-
         void copyOf(Row from) {
             size = 0;
-            addAll(from);
+            addPart(from, 0, from.size);
         }
 
         void insert(int place, int b) {
@@ -530,12 +518,21 @@ public final class SnippetStops {
         }
 
         private void widen(int wanted) {
-            if (wanted > bytes.length && wanted <= room) {
-                int doubled = Math.max(16, 2 * bytes.length);
-                byte[] wider = new byte[Math.min(room, Math.max(wanted, doubled))];
-                System.arraycopy(bytes, 0, wider, 0, size);
-                bytes = wider;
+            if (wanted <= bytes.length || wanted > room) {
+                return;
             }
+            int length = bytes.length < 8 ? 16 : 2 * bytes.length;
+            if (length < wanted) {
+                length = wanted;
+            }
+            if (length > room) {
+                length = room;
+            }
+            byte[] wider = new byte[length];
+            for (int i = 0; i < size; i++) {
+                wider[i] = bytes[i];
+            }
+            bytes = wider;
         }
     }
 
@@ -576,8 +573,13 @@ public final class SnippetStops {
                 row.reverseFrom(begin);
                 return;
             }
-            int end = rule == CAPITAL ? Math.min(begin + 1, row.size()) : row.size();
-            for (int i = begin; i < end && rule != NO_RULE; i++) {
+            int end = row.size();
+            if (rule == NO_RULE) {
+                end = begin;
+            } else if (rule == CAPITAL && end > begin) {
+                end = begin + 1;
+            }
+            for (int i = begin; i < end; i++) {
                 row.put(i, changed(row.get(i)));
             }
         }
@@ -632,7 +634,7 @@ public final class SnippetStops {
         }
 
         boolean isMaster(Occurrence o) {
-            return masterOf(o.stop) == o;
+            return isStop(o.stop) && masters[o.stop] == o;
         }
 
         /** Null if there is no room. */
@@ -695,14 +697,32 @@ public final class SnippetStops {
         }
     }
 
-    /** Reads THE TEXT as a TEMPLATE. */
+    /**
+     * Reads THE TEXT as a TEMPLATE, byte by byte: the mode says what may stand
+     * next, so the FAULT is the first byte that the mode does not take.
+     */
     private static final class Reader {
+        private static final int ITEM = 0;
+        private static final int ESCAPED = 1;
+        private static final int BEHIND_DOLLAR = 2;
+        private static final int NUMBER = 3;
+        private static final int KIND = 4;
+        private static final int CHOICE = 5;
+        private static final int ESCAPED_IN_CHOICE = 6;
+        private static final int RULE = 7;
+        private static final int BEHIND_RULE = 8;
+        private static final int CLOSING = 9;
+
         final Template template = new Template();
         private final Row text;
         private final Row[] variables;
+        private int mode = ITEM;
         private int place = 0;
         private int fault = NONE;
-        /** The OCCURRENCE whose DEFAULT is being read. */
+        private int number = 0;
+        /** The OCCURRENCE that was read last. */
+        private Occurrence latest = null;
+        /** The OCCURRENCE whose DEFAULT is being read; null: none. */
         private Occurrence within = null;
         private int deep = 0;
 
@@ -713,10 +733,11 @@ public final class SnippetStops {
 
         /** The FAULT, or NONE. */
         int read() {
-            for (int items = 0; items < text.size() && goesOn(); items++) {
-                readItem();
+            for (int i = 0; i < text.size() && fault == NONE; i++) {
+                place = i;
+                take(text.get(i));
             }
-            if (fault == NONE && within != null) {
+            if (fault == NONE && (mode != ITEM || within != null)) {
                 fault = text.size();
             }
             if (fault == NONE) {
@@ -725,161 +746,157 @@ public final class SnippetStops {
             return fault;
         }
 
-        private boolean goesOn() {
-            return fault == NONE && place < text.size();
-        }
-
-        private int ahead(int n) {
-            return text.get(place + n);
-        }
-
-        private void failAhead(int n) {
-            fault = Math.min(place + n, text.size());
-        }
-
-        private void readItem() {
-            int b = ahead(0);
-            if (b == '$') {
-                readDollar();
-            } else if (b == '}' && within != null) {
-                closeDefault();
-            } else {
-                readByte();
-            }
-        }
-
-        private void readByte() {
-            int escape = ahead(0) == '\\' ? 1 : 0;
-            int b = ahead(escape);
+        private void take(int b) {
             if (!isShown(b)) {
-                failAhead(escape);
+                fault = place;
                 return;
             }
-            template.codes.add(b);
-            place += escape + 1;
-        }
-
-        private void readDollar() {
-            int b = ahead(1);
-            if (b >= 'A' && b < 'A' + VARIABLES) {
-                readVariable(b - 'A');
-            } else if (!isDigit(b) && b != '{') {
-                failAhead(1);
-            } else if (template.isFull()) {
-                failAhead(0);
-            } else if (b == '{') {
-                readBraced();
-            } else {
-                template.addOccurrence(b - '0', within);
-                place += 2;
+            switch (mode) {
+                case ITEM:
+                    takeItem(b);
+                    break;
+                case BEHIND_DOLLAR:
+                    takeBehindDollar(b);
+                    break;
+                case NUMBER:
+                    takeNumber(b);
+                    break;
+                case KIND:
+                    takeKind(b);
+                    break;
+                case CHOICE:
+                    takeInChoice(b);
+                    break;
+                case RULE:
+                    takeRule(b);
+                    break;
+                case BEHIND_RULE:
+                    takeBehindRule(b);
+                    break;
+                case CLOSING:
+                    takeClosing(b);
+                    break;
+                default:
+                    template.codes.add(b);
+                    mode = mode == ESCAPED_IN_CHOICE ? CHOICE : ITEM;
+                    break;
             }
         }
 
-        private void readVariable(int v) {
-            if (v >= 0 && v < variables.length) {
-                template.codes.addAll(variables[v]);
-            }
-            place += 2;
-        }
-
-        private void readBraced() {
-            int n = ahead(2);
-            if (!isDigit(n)) {
-                failAhead(2);
-                return;
-            }
-            int kind = ahead(3);
-            if (kind != ':' && kind != '|' && kind != '/' || kind == ':' && deep >= MOST_DEEP) {
-                failAhead(3);
-                return;
-            }
-            Occurrence o = template.addOccurrence(n - '0', within);
-            place += 4;
-            if (o == null) {
-                return;
-            }
-            if (kind == ':') {
-                openDefault(o);
-            } else if (kind == '|') {
-                readChoices(o);
-            } else {
-                readRule(o);
-            }
-        }
-
-        private void openDefault(Occurrence o) {
-            o.hasDefault = true;
-            within = o;
-            deep++;
-        }
-
-        private void closeDefault() {
-            if (within != null) {
+        private void takeItem(int b) {
+            if (b == '$') {
+                mode = BEHIND_DOLLAR;
+            } else if (b == '\\') {
+                mode = ESCAPED;
+            } else if (b == '}' && within != null) {
                 within.end = template.codes.size();
                 within = within.outer;
                 deep--;
+            } else {
+                template.codes.add(b);
             }
-            place++;
         }
 
-        private void readChoices(Occurrence o) {
-            o.choices = 1;
-            for (int i = 0; i < text.size() && goesOn() && ahead(0) != '|'; i++) {
-                readInChoice(o);
+        private void takeBehindDollar(int b) {
+            if (b >= 'A' && b - 'A' < variables.length) {
+                Row variable = variables[b - 'A'];
+                template.codes.addPart(variable, 0, variable.size());
+                mode = ITEM;
+            } else if (b != '{' && !isDigit(b)) {
+                fault = place;
+            } else if (template.isFull()) {
+                fault = place - 1;
+            } else if (b == '{') {
+                mode = NUMBER;
+            } else {
+                template.addOccurrence(b - '0', within);
+                mode = ITEM;
             }
-            o.end = template.codes.size();
-            if (fault == NONE && ahead(0) != '|') {
-                failAhead(0);
-            }
-            place++;
-            closeBrace();
         }
 
-        private void readInChoice(Occurrence o) {
-            int b = ahead(0);
-            if (b == '$' || b == ',' && o.choices >= MOST_CHOICES) {
-                failAhead(0);
+        private void takeNumber(int b) {
+            if (isDigit(b)) {
+                number = b - '0';
+                mode = KIND;
+            } else {
+                fault = place;
+            }
+        }
+
+        private void takeKind(int b) {
+            boolean tooDeep = b == ':' && deep >= MOST_DEEP;
+            if (b != ':' && b != '|' && b != '/' || tooDeep) {
+                fault = place;
+                return;
+            }
+            latest = template.addOccurrence(number, within);
+            if (latest == null) {
+                return;
+            }
+            if (b == ':') {
+                latest.hasDefault = true;
+                within = latest;
+                deep++;
+                mode = ITEM;
+            } else if (b == '|') {
+                latest.choices = 1;
+                mode = CHOICE;
+            } else {
+                mode = RULE;
+            }
+        }
+
+        private void takeInChoice(int b) {
+            if (latest == null || b == '$' || b == ',' && latest.choices >= MOST_CHOICES) {
+                fault = place;
+            } else if (b == '\\') {
+                mode = ESCAPED_IN_CHOICE;
             } else if (b == ',') {
-                o.choices++;
+                latest.choices++;
                 template.codes.add(Template.COMMA);
-                place++;
+            } else if (b == '|') {
+                latest.end = template.codes.size();
+                mode = CLOSING;
             } else {
-                readByte();
+                template.codes.add(b);
             }
         }
 
-        private void readRule(Occurrence o) {
-            int x = ahead(0);
-            int y = ahead(1);
-            if (!canBeInRule(x)) {
-                failAhead(0);
-            } else if (y == '}' && namedRule(x) != NO_RULE) {
-                o.rule = namedRule(x);
-                place += 2;
-            } else if (!canBeInRule(y)) {
-                failAhead(1);
+        private void takeRule(int b) {
+            if (latest == null || !canBeInRule(b)) {
+                fault = place;
+                return;
+            }
+            latest.swapped = b;
+            mode = BEHIND_RULE;
+        }
+
+        /** Only here is it seen whether a letter was a RULE's name or its x. */
+        private void takeBehindRule(int b) {
+            if (latest == null) {
+                fault = place;
+            } else if (b == '}' && namedRule(latest.swapped) != NO_RULE) {
+                latest.rule = namedRule(latest.swapped);
+                mode = ITEM;
+            } else if (canBeInRule(b)) {
+                latest.rule = SWAP;
+                latest.swappedTo = b;
+                mode = CLOSING;
             } else {
-                o.rule = SWAP;
-                o.swapped = x;
-                o.swappedTo = y;
-                place += 2;
-                closeBrace();
+                fault = place;
             }
         }
 
-        private void closeBrace() {
-            if (fault != NONE) {
-                return;
+        private void takeClosing(int b) {
+            if (b == '}') {
+                mode = ITEM;
+            } else {
+                fault = place;
             }
-            if (ahead(0) != '}') {
-                failAhead(0);
-                return;
-            }
-            place++;
         }
 
         private static boolean canBeInRule(int b) {
-            return isShown(b) && b != '}' && b != '\\';
+            return b != '}' && b != '\\';
         }
 
         private static int namedRule(int b) {
@@ -1029,17 +1046,10 @@ public final class SnippetStops {
             fresh = false;
         }
 
-        /** To nothing, if FRESH, else to what it HOLDS. */
+        /** One that is not FRESH is SET to what it HOLDS as it is. */
         private void setBeforeEdit() {
-            if (!isStop(stop)) {
-                return;
-            }
-            if (!set[stop] && !fresh) {
-                setTo[stop].empty();
-                putHeld(stop, setTo[stop]);
-            }
-            markSet(stop);
-            if (fresh) {
+            if (isStop(stop) && fresh) {
+                markSet(stop);
                 setTo[stop].empty();
             }
         }
@@ -1053,18 +1063,11 @@ public final class SnippetStops {
             }
         }
 
-        void replaceHeld(Row text) {
-            if (isStop(stop)) {
-                markSet(stop);
-                setTo[stop].copyOf(text);
-            }
-        }
-
         /**
          * What the STOPS within HELD is all made up ahead of the first mark, since
          * each mark changes what the others HOLD.
          */
-        private void markSet(int n) {
+        void markSet(int n) {
             if (!isStop(n) || set[n]) {
                 return;
             }
@@ -1074,7 +1077,7 @@ public final class SnippetStops {
                 Occurrence inner = template.masterOf(m);
                 if (!set[m] && inner != null && isThere(inner) && inner.isWithin(master)) {
                     setTo[m].empty();
-                    putHeld(m, setTo[m]);
+                    putHeldWhile(setTo[m], m, 0, 0, false);
                     kept |= 1 << m;
                 }
             }
@@ -1084,6 +1087,12 @@ public final class SnippetStops {
                 }
             }
             set[n] = true;
+        }
+
+        void replaceSet(int n, Row text) {
+            if (isSet(n)) {
+                setTo[n].copyOf(text);
+            }
         }
 
         void putHeld(int n, Row out) {
@@ -1104,7 +1113,7 @@ public final class SnippetStops {
                 return;
             }
             if (set[n]) {
-                out.addAll(setTo[n]);
+                out.addPart(setTo[n], 0, setTo[n].size());
                 return;
             }
             Occurrence master = template.masterOf(n);
@@ -1234,10 +1243,16 @@ public final class SnippetStops {
             return top.stop;
         }
 
-        /** To be called when all is settled. */
+        void comeTo(int n) {
+            Session top = uppermost();
+            if (top != null) {
+                top.comeTo(n);
+            }
+        }
+
         void endUppermost() {
             Session top = uppermost();
-            if (top == null) {
+            if (top == null || !settle()) {
                 return;
             }
             open--;
@@ -1274,7 +1289,9 @@ public final class SnippetStops {
                 if (shown.size() > MOST_BYTES) {
                     return false;
                 }
-                sessions[k - 1].replaceHeld(shown);
+                Session below = sessions[k - 1];
+                below.markSet(below.stop);
+                below.replaceSet(below.stop, shown);
             }
             shown.empty();
             shown.addPart(plain, 0, caret);
