@@ -22,8 +22,9 @@ public final class SnippetStops {
     private static final int SHOWN_ROOM = MOST_BYTES + 1;
     // A TEMPLATE of nothing but VARIABLES: 60 of 12 bytes.
     private static final int CODES_ROOM = 1024;
-    // A STOP may HOLD more than THE DOCUMENT shows of it: what is shown nowhere
-    // but within itself comes again and again by its mirrors, some 80 times 240.
+    // A STOP may HOLD more than THE DOCUMENT shows of it: within others, what it
+    // HOLDS by way of them is not shown. Each byte of the 240 comes at most 162
+    // times: the ways through 14 OCCURRENCES are most where they branch by threes.
     private static final int HELD_ROOM = 65536;
 
     private static final int NO_RULE = 0;
@@ -922,6 +923,12 @@ public final class SnippetStops {
         boolean fresh = false;
         private final boolean[] set = new boolean[STOPS];
         private final Row[] setTo = new Row[STOPS];
+        /**
+         * Of a STOP that was SET to more than THE DOCUMENT can show (so it is THERE no
+         * more): this SESSION ahead of that. Such a text is made up again rather than
+         * written out, as the states would hold megabytes of them. Null: setTo has it.
+         */
+        private final Session[] before = new Session[STOPS];
         /** Where each OCCURRENCE that is there came to stand when all was laid out. */
         private final int[] begins = new int[MOST_OCCURRENCES];
         private final int[] lengths = new int[MOST_OCCURRENCES];
@@ -929,7 +936,7 @@ public final class SnippetStops {
         Session(Template blank) {
             template = blank;
             for (int n = 0; n < setTo.length; n++) {
-                setTo[n] = new Row(HELD_ROOM);
+                setTo[n] = new Row(SHOWN_ROOM);
             }
         }
 
@@ -940,6 +947,7 @@ public final class SnippetStops {
             fresh = other.fresh;
             for (int n = 0; n < STOPS; n++) {
                 set[n] = other.set[n];
+                before[n] = other.before[n];
                 if (set[n]) {
                     setTo[n].copyOf(other.setTo[n]);
                 }
@@ -950,6 +958,7 @@ public final class SnippetStops {
             template = begun;
             for (int n = 0; n < STOPS; n++) {
                 set[n] = false;
+                before[n] = null;
             }
             comeTo(leastAbove(0));
         }
@@ -1050,14 +1059,14 @@ public final class SnippetStops {
         private void setBeforeEdit() {
             if (isStop(stop) && fresh) {
                 markSet(stop);
-                setTo[stop].empty();
+                makeEmpty(stop);
             }
         }
 
         void pick(int i) {
             if (isStop(stop)) {
                 markSet(stop);
-                setTo[stop].empty();
+                makeEmpty(stop);
                 template.putChoice(stop, i, setTo[stop]);
                 fresh = true;
             }
@@ -1072,13 +1081,22 @@ public final class SnippetStops {
                 return;
             }
             Occurrence master = template.masterOf(n);
+            Session was = null;
             int kept = 0;
             for (int m = 0; m < STOPS; m++) {
                 Occurrence inner = template.masterOf(m);
-                if (!set[m] && inner != null && isThere(inner) && inner.isWithin(master)) {
-                    setTo[m].empty();
-                    putHeldWhile(setTo[m], m, 0, 0, false);
-                    kept |= 1 << m;
+                if (set[m] || inner == null || !isThere(inner) || !inner.isWithin(master)) {
+                    continue;
+                }
+                kept |= 1 << m;
+                makeEmpty(m);
+                putHeldWhile(setTo[m], m, 0, 0, false);
+                if (setTo[m].size() > MOST_BYTES) {
+                    if (was == null) {
+                        was = new Session(template);
+                        was.copyOf(this);
+                    }
+                    before[m] = was;
                 }
             }
             for (int m = 0; m < STOPS; m++) {
@@ -1089,9 +1107,17 @@ public final class SnippetStops {
             set[n] = true;
         }
 
+        private void makeEmpty(int n) {
+            if (isStop(n)) {
+                before[n] = null;
+                setTo[n].empty();
+            }
+        }
+
         void replaceSet(int n, Row text) {
             if (isSet(n)) {
-                setTo[n].copyOf(text);
+                makeEmpty(n);
+                setTo[n].addPart(text, 0, text.size());
             }
         }
 
@@ -1105,11 +1131,16 @@ public final class SnippetStops {
 
         /**
          * The making bits are the STOPS whose HELD texts are being made up: they
-         * show nothing, so no way leads deeper than there are STOPS. Only own items
-         * are noted: those in their own place, not those seen by way of a mirror.
+         * show nothing, so no way leads deeper than there are STOPS, here and in a
+         * SESSION as it was. Only own items are noted: those in their own place, not
+         * those seen by way of a mirror.
          */
         private void putHeldWhile(Row out, int n, int making, int depth, boolean own) {
-            if (!isStop(n) || depth > STOPS) {
+            if (!isStop(n) || depth > 2 * STOPS) {
+                return;
+            }
+            if (set[n] && before[n] != null) {
+                before[n].putHeldWhile(out, n, 0, depth + 1, false);
                 return;
             }
             if (set[n]) {

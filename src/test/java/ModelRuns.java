@@ -353,6 +353,8 @@ public final class ModelRuns {
                     Item i = master[m];
                     if (m != n && set[m] == null && i != null && there(i) && within(i, master[n])) {
                         after[m] = holds(m);
+                        keptLong += after[m].length() > 240 ? 1 : 0;
+                        longest = Math.max(longest, after[m].length());
                     }
                 }
                 set = after;
@@ -684,7 +686,7 @@ public final class ModelRuns {
                 return refuse(NO);
             }
             int[] answers = {t.thereOf(n).isEmpty() ? 0 : 1, t.set[n] == null ? 0 : 1,
-                t.holds(n).length(), t.thereOf(n).size(), t.choices(n)};
+                what == 2 ? t.holds(n).length() : 0, t.thereOf(n).size(), t.choices(n)};
             return answers[what];
         }
 
@@ -791,6 +793,8 @@ public final class ModelRuns {
     private int calls = 0;
     private boolean wrong = false;
     static int[] seen = new int[64];
+    static int keptLong = 0;
+    static int longest = 0;
 
     ModelRuns(long seed) {
         random = new Random(seed);
@@ -895,6 +899,37 @@ public final class ModelRuns {
         return b.toString();
     }
 
+    String mirrors(int n) {
+        StringBuilder b = new StringBuilder();
+        for (int i = below(5); i > 0; i--) {
+            b.append(below(6) == 0 ? "${" + n + "/" + rule() + "}" : "$" + n);
+        }
+        return b.toString();
+    }
+
+    /** Stops within one another that show one another: they hold far more than is shown. */
+    String deep() {
+        List<Integer> stops = new ArrayList<>(List.of(0, 1, 2, 3, 4, 5, 6, 7, 8, 9));
+        int[] n = new int[5];
+        for (int i = 0; i < n.length; i++) {
+            n[i] = stops.remove(below(stops.size()));
+        }
+        String last = "${" + n[4] + ":" + mirrors(n[below(2)]) + "}";
+        boolean beside = below(3) > 0;
+        String inner = "${" + n[3] + ":" + mirrors(n[4]) + (beside ? "}" + last : last + "}");
+        return "${" + n[0] + ":" + "$A".repeat(below(20)) + "${" + n[1] + ":" + mirrors(n[2]) + "${" + n[2] + ":"
+            + mirrors(n[3]) + inner + "}}}" + (below(3) == 0 ? mirrors(n[below(5)]) : "");
+    }
+
+    void tellDeep() {
+        tell("abcdefghijkl".substring(below(3) == 0 ? below(12) : 0));
+        due("variable(0)", x.variable(0), m.variable(0));
+        tell(deep());
+        for (int i = below(3); i >= 0; i--) {
+            due("begins()", x.begins(), m.begins());
+        }
+    }
+
     void tell(String s) {
         due("clear()", x.clear(), m.clear());
         for (char c : s.toCharArray()) {
@@ -977,8 +1012,11 @@ public final class ModelRuns {
                 due("stop(" + n + ", " + w + ")", x.stop(n, w), m.stop(n, w));
                 break;
             case 3:
-            case 4:
                 due("held(" + n + ", " + i + ")", x.held(n, i), m.held(n, i));
+                break;
+            case 4:
+                int far = below(2) == 0 ? below(300) : below(30000);
+                due("held(" + n + ", " + far + ")", x.held(n, far), m.held(n, far));
                 break;
             case 5:
                 due("choice(" + n + ", " + k + ", " + i + ")", x.choice(n, k, i), m.choice(n, k, i));
@@ -1020,6 +1058,8 @@ public final class ModelRuns {
             if (below(12) == 0) {
                 tell(below(5) == 0 ? bytes(13) : template());
                 due("begins()", x.begins(), m.begins());
+            } else if (below(100) == 0) {
+                tellDeep();
             } else if (below(120) == 0) {
                 lookAtAll();
             } else if (below(3) == 0) {
@@ -1045,6 +1085,7 @@ public final class ModelRuns {
             }
         }
         System.out.println(runs + " random runs are as the model's; seen NONE " + seen[1] + ", BAD " + seen[2]
-            + ", NO " + seen[3] + ", FULL " + seen[4] + ", ENDED " + seen[5]);
+            + ", NO " + seen[3] + ", FULL " + seen[4] + ", ENDED " + seen[5] + "; SET to more than 240 bytes " + keptLong
+            + " times, to " + longest + " at most");
     }
 }
