@@ -522,6 +522,9 @@ public final class Edges {
         after("begin:${1:a${2:b${3:c}}${4|d,e|}$5}$2$3$4$5", "key 120").shows("xbccd")
             .due("stop 2 1", 1).due("stop 3 1", 1).due("stop 4 1", 1).due("stop 5 1", 1).holds(2, "bc");
         after("begin:${1:x${2:y$1}}", "key 113").holds(2, "yx").due("stop 2 0", 0);
+        after("begin:${1:a${0:b}}$0", "keys:xy").shows("xyb").due("stop 0 1", 1).holds(0, "b");
+        after("begin:${1:a${2:b$0}}${0:z}$2").holds(2, "bz").go("key 120").holds(2, "bz").shows("xzbz");
+        after("begin:${1:a${2:b}}$2", "key 120", "back", "key 120", "back", "key 120").shows("xb").holds(2, "b");
         sentence = "STOPS not SET .. (those that are SET stay as they are)";
         after("begin:${1:a${2:b}}$2", "nexts", "key 113", "prevs", "key 120").shows("xq");
         sentence = "whose MASTERS were .. within it (another OCCURRENCE there is not enough)";
@@ -532,6 +535,29 @@ public final class Edges {
         sentence = "A STOP is THERE, if an OCCURRENCE of it is there";
         after("begin:${1:${2:b}}${2/u}", "key 120").due("stop 2 0", 1).due("nexts", 2);
         after("begin:${1:${2:b}}", "key 120").due("stop 2 0", 0).due("nexts", ENDED);
+    }
+
+    /** No bound is told for what a STOP HOLDS: more than THE DOCUMENT's 240 is kept, too. */
+    private static void longOnes() {
+        sentence = "are SET to what they HELD ahead of that: 240 bytes";
+        after("begin:${1:" + many("a", 60) + "${2:$1$1$1$1}}").counts(0, 60).due("stop 2 2", 240).go("keys:xy").due("stop 2 2", 240)
+            .due("held 2 239", 'a').due("held 2 240", NONE).due("stop 2 1", 1).shows("xy");
+        sentence = "are SET to what they HELD ahead of that: 241 bytes, and more";
+        Desk d = after("begin:${1:" + many("a", 60) + "${2:$1$1$1$1$0}}${0:z}").counts(0, 62).due("stop 2 2", 241);
+        d.due("held 2 240", 'z').go("key 120").due("stop 2 2", 241).due("held 2 240", 'z').due("held 2 241", NONE);
+        d.due("stop 2 1", 1).go("key 121").due("stop 2 2", 241).due("held 2 239", 'a').due("held 2 240", 'z').shows("xyz");
+        d.go("begin:q$3", "key 113").due("stop 2 2", 0).go("ends").due("stop 2 2", 241).due("held 2 240", 'z').shows("qqz");
+        d.go("back", "back", "back", "back").due("stop 2 2", 241).shows("xz").go("back").due("stop 2 1", 0).due("stop 2 2", 241);
+        Desk more = after("begin:${1:" + many("a", 50) + "${2:${3:$1$1$1$4$1$1}$3$3}}${4:q}").due("stop 2 2", 753).due("stop 3 2", 251);
+        more.go("key 120").due("stop 2 2", 753).due("stop 3 2", 251).due("held 3 150", 'q').due("held 2 401", 'q').due("held 2 752", 'a')
+            .due("held 2 753", NONE).shows("xq");
+        sentence = "what they HELD ahead of that (not what they would HOLD then)";
+        more.due("nexts", 4).due("key 119", 2).shows("xw").due("stop 3 2", 251).due("held 3 150", 'q').due("held 2 401", 'q');
+        after("begin:${1:" + many("a", 60) + "${2:$1$1$1$1$4}}${4:q}", "nexts", "nexts", "key 119", "prevs", "prevs", "key 120")
+            .shows("xw").due("stop 2 2", 241).due("held 2 240", 'w');
+        sentence = "are SET to what they HELD: where more than 240 bytes would be shown of it, FULL";
+        after("begin:${3:" + many("a", 61) + "${1:x${2:$3$3$3$3}}$2}").counts(0, 62).due("stop 2 2", 248).refuses("key 97", FULL)
+            .refuses("rubs", FULL).go("text:b").refuses("begins", FULL).due("nexts", 2);
     }
 
     // ---- SESSIONS
@@ -583,6 +609,9 @@ public final class Edges {
         after("begin:${1:q}r").due("begin:${0:xy}", ENDED).counts(2, 1).counts(4, 0).holds(1, "xy").shows("xyr").due("key 122", 4);
         after("begin:${1:q}r").due("begin:", ENDED).due("stop 1 1", 1).shows("r");
         after().due("begin:$1", 1).counts(2, 1);
+        sentence = "A SESSION .. for a TEMPLATE that was begun (nothing is SET of one that was before)";
+        after("begin:${1:a${0:b}}", "key 120", "back", "ends", "begin:${1:c${0:d}}").shows("acdb").due("stop 1 1", 0)
+            .due("stop 0 1", 0);
     }
 
     private static void states() {
@@ -617,6 +646,20 @@ public final class Edges {
         after("keys:abcdefghi").tells(4, 8).go("back", "back", "back", "back", "back", "back", "back").due("back", 0).shows("a")
             .refuses("back", NO);
         after("keys:" + many("a", 20)).tells(4, 8).due("back", 7).due("key 98", 20).tells(4, 8);
+        Desk twelve = after("keys:abcdefghijkl");
+        for (int left = 7; left >= 0; left--) {
+            twelve.due("back", left).shows("abcdefghijkl".substring(0, 4 + left));
+        }
+        Desk turned = after("keys:abcdefghijkl", "back", "key 120");
+        for (int left = 7; left >= 0; left--) {
+            turned.due("back", left).shows("abcdefghijk".substring(0, 4 + left));
+        }
+        Desk full = filled(240);
+        for (int i = 1; i <= 10; i++) {
+            full.due("caret " + (240 - i), 241 - i).tells(4, Math.min(8, 2 + i));
+        }
+        full.refuses("key 97", FULL).due("back", 7).counts(1, 231);
+        after("keys:ab", "back", "keys:cd").due("back", 2).shows("ac").due("back", 1).shows("a").due("back", 0).shows("");
         sentence = "By a FAULT nothing counts";
         after("keys:a", "text:$").faults(1).tells(0, 0).tells(1, 0).tells(2, 0).tells(4, 1);
     }
@@ -774,6 +817,8 @@ public final class Edges {
         sentence = "cuts: n bytes from p on go (the CARET is nearer by as many of them as were ahead of it)";
         after("keys:abcdef", "caret 3").due("cuts 0 3", 3).counts(1, 0).shows("def");
         after("keys:abcdef", "caret 3").due("cuts 3 3", 3).counts(1, 3).shows("abc");
+        after("keys:abcdef", "caret 1").due("cuts 3 2", 4).counts(1, 1).shows("abcf");
+        after("keys:abcdef", "caret 5").due("cuts 1 2", 4).counts(1, 3).shows("adef");
         after("keys:abcdef", "caret 3").due("cuts 2 2", 4).counts(1, 2).shows("abef");
         after("keys:abcdef", "caret 3").due("cuts 2 1", 5).counts(1, 2).shows("abdef");
         after("keys:abcdef", "caret 3").due("cuts 0 6", 0).counts(1, 0).shows("");
@@ -924,6 +969,7 @@ public final class Edges {
         limits();
         masters();
         settings();
+        longOnes();
         sessions();
         endings();
         states();
