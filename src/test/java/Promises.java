@@ -844,7 +844,27 @@ public final class Promises {
         due("24 changes nothing", x.digest(), folded(want));
     }
 
+    /** README.md has these calls with these answers. */
+    private static void readme() {
+        SnippetStops x = new SnippetStops();
+        tell(x, "for ${1:i}: ${1/u}$0;");
+        due("readme: told(3)", x.told(3), 21);
+        due("readme: begins", x.begins(), 1);
+        due("readme: shown", shown(x), "for i: I;");
+        due("readme: key k", x.key('k'), 9);
+        due("readme: shown", shown(x), "for k: K;");
+        due("readme: key m", x.key('m'), 11);
+        due("readme: nexts", x.nexts(), ENDED);
+        due("readme: caret", x.count(1), 10);
+        due("readme: shown", shown(x), "for km: KM;");
+        due("readme: back", x.back(), 3);
+        due("readme: sessions", x.count(2), 1);
+        due("readme: back", x.back(), 2);
+        due("readme: shown", shown(x), "for k: K;");
+    }
+
     public static void main(String[] args) {
+        readme();
         promise1();
         promise2();
         promise3();
